@@ -9,7 +9,7 @@ public final class RouteWall {
     private static final int CANNOT_BE = 2;
     private static final int TOO_MANY = 3;
     private static final int NOT_IN_OPEN = 4;
-    private static final int TRY_STANDS_SO = 5;
+    private static final int OPEN_TRY_OR_NONE = 5;
     private static final int TRIES_SPENT = 6;
     private static final int HAS_SEEN = 7;
     private static final int RESTS = 8;
@@ -36,6 +36,7 @@ public final class RouteWall {
     private static final int LAST_DAY = 999;
     private static final long POINTS_BOUND = 1000000000L;
 
+    private static final int NO_FAULT = 0;
     private static final int FAULT_TOKEN = 1;
     private static final int FAULT_PLACE = 2;
     private static final int FAULT_MANY = 3;
@@ -143,7 +144,7 @@ public final class RouteWall {
         taped = 0;
         faultKind = reader.fault;
         faultPlace = reader.faultPlace;
-        if (faultKind != FINE) {
+        if (faultKind != NO_FAULT) {
             return refuse(NOT_NOW);
         }
         laws.take(reader.draft);
@@ -235,7 +236,7 @@ public final class RouteWall {
         }
         int number = tries.openOf(climber);
         if (number == NONE) {
-            return refuse(TRY_STANDS_SO);
+            return refuse(OPEN_TRY_OR_NONE);
         }
         int last = wall.holdsOf(tries.round[number], tries.route[number]);
         if (hold <= tries.hold[number] || hold > last) {
@@ -256,7 +257,7 @@ public final class RouteWall {
         }
         int number = tries.openOf(climber);
         if (number == NONE) {
-            return deny(TRY_STANDS_SO);
+            return deny(OPEN_TRY_OR_NONE);
         }
         tries.finish(number, time, broken ? HOW_BROKEN : HOW_FELL);
         return grant();
@@ -326,7 +327,7 @@ public final class RouteWall {
             return refuse(NO_SUCH);
         }
         if (tries.openOf(climber) != NONE) {
-            return refuse(TRY_STANDS_SO);
+            return refuse(OPEN_TRY_OR_NONE);
         }
         return answer(Math.max(time, restOver(climber)));
     }
@@ -390,7 +391,7 @@ public final class RouteWall {
             return refuse(CANNOT_BE);
         }
         if (tries.anyOpen()) {
-            return refuse(TRY_STANDS_SO);
+            return refuse(OPEN_TRY_OR_NONE);
         }
         if (field.climbers == 0 || field.open + 1 >= laws.rounds) {
             return refuse(NOT_NOW);
@@ -498,7 +499,7 @@ public final class RouteWall {
             return NOT_IN_OPEN;
         }
         if (tries.openOf(climber) != NONE) {
-            return TRY_STANDS_SO;
+            return OPEN_TRY_OR_NONE;
         }
         if (tries.mayNotTry(climber, open, route, laws.shapeOf(open, SHAPE_TRIES))) {
             return TRIES_SPENT;
@@ -746,14 +747,14 @@ public final class RouteWall {
         boolean tiesTold;
 
         void read(int[] bytes, int length) {
-            fault = FINE;
+            fault = NO_FAULT;
             faultPlace = NONE;
             pointsTold = false;
             keysTold = false;
             tiesTold = false;
             draft.setUntold();
             tokens.split(bytes, length);
-            for (int i = 0; i <= TEXT_MOST && fault == FINE && tokens.kind() != TOKEN_END; i++) {
+            for (int i = 0; i <= TEXT_MOST && fault == NO_FAULT && tokens.kind() != TOKEN_END; i++) {
                 readLaw();
             }
         }
@@ -766,7 +767,9 @@ public final class RouteWall {
                 case WORD_POINTS:
                     refuseIf(pointsTold, FAULT_AGAIN);
                     pointsTold = true;
-                    readPoints();
+                    if (goOn()) {
+                        note(expression.read(tokens, draft));
+                    }
                     break;
                 case WORD_KEYS:
                     refuseIf(keysTold, FAULT_AGAIN);
@@ -787,7 +790,7 @@ public final class RouteWall {
 
         /** The first fault stays: what is noted behind it is no fault of the text. */
         private void note(int kind) {
-            if (fault == FINE && kind != FINE) {
+            if (fault == NO_FAULT && kind != NO_FAULT) {
                 fault = kind;
                 faultPlace = tokens.place();
             }
@@ -804,10 +807,10 @@ public final class RouteWall {
         }
 
         private boolean goOn() {
-            if (fault == FINE) {
+            if (fault == NO_FAULT) {
                 tokens.step();
             }
-            return fault == FINE;
+            return fault == NO_FAULT;
         }
 
         private void pass(int kind) {
@@ -823,7 +826,7 @@ public final class RouteWall {
             if (!goOn()) {
                 return;
             }
-            for (int i = 0; i < SHAPE && fault == FINE; i++) {
+            for (int i = 0; i < SHAPE && fault == NO_FAULT; i++) {
                 if (tokens.kind() == TOKEN_NUMBER) {
                     refuseIf(tokens.value() < SHAPE_LEAST[i] || tokens.value() > SHAPE_GREATEST[i], FAULT_NUMBER);
                     draft.shape[round * SHAPE + i] = tokens.value();
@@ -831,12 +834,6 @@ public final class RouteWall {
                 pass(TOKEN_NUMBER);
             }
             draft.rounds = round + 1;
-        }
-
-        private void readPoints() {
-            if (goOn()) {
-                note(expression.read(tokens, draft));
-            }
         }
 
         private void readKeys() {
@@ -892,15 +889,15 @@ public final class RouteWall {
             nested = 0;
             parens = 0;
             items = 0;
-            fault = FINE;
+            fault = NO_FAULT;
             boolean whole = false;
-            for (int i = 0; i <= TEXT_MOST && fault == FINE; i++) {
+            for (int i = 0; i <= TEXT_MOST && fault == NO_FAULT; i++) {
                 if (whole && tokens.kind() == ';' && parens == 0) {
                     release(ITEM_ADD, draft);
-                    return FINE;
+                    return NO_FAULT;
                 }
                 whole = whole ? readBehindFactor(tokens.kind(), draft) : readFactor(tokens, draft);
-                if (fault == FINE) {
+                if (fault == NO_FAULT) {
                     tokens.step();
                 }
             }
@@ -1409,7 +1406,7 @@ public final class RouteWall {
                     long mine = keyOf(r, one, k);
                     long hers = keyOf(r, other, k);
                     if (mine != hers) {
-                        return mine > hers == (laws.keyDown[k] == 1);
+                        return (mine > hers) == (laws.keyDown[k] == 1);
                     }
                 }
             }
