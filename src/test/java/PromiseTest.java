@@ -7,6 +7,7 @@ public final class PromiseTest {
         promise2();
         promise3();
         promise4();
+        promise4Again();
         promise5();
         FaultCases.run();
         promise6();
@@ -150,6 +151,47 @@ public final class PromiseTest {
         x.reach(0, 10, 0);
         Check.due("untold points", x.of(0, 0, 0, 0, 6), 100);
         Check.due("a text may end by a law without rounds", Texts.load(x, "ties back;"), 0);
+    }
+
+    /** Nothing of an earlier text, or of a contest under it, is left behind a new one. */
+    private static void promise4Again() {
+        RouteWall x = new RouteWall();
+        String text = "points -(hold-1)*2;keys up sum,down tops;ties back;round 1 5 10 0;round 1 5 10 0;";
+        due("a text", x, Texts.load(x, text), 2, 0);
+        x.climber();
+        x.climber();
+        x.begin(0, 0, 0);
+        x.reach(0, 3, 1);
+        x.fall(0, 1, false);
+        x.advance(1, 0);
+        x.out(0, 2, true);
+        x.begin(0, 0, 2);
+        due("the same text again", x, Texts.load(x, text), 2, 0);
+        x.climber();
+        x.climber();
+        Check.due("round 0 is open, its climbers in no other", x.told(1, NONE, 4), 0);
+        refused("all are in", x, x.out(0, 0, false), 10);
+        Check.due("nobody has an open try", x.ready(0), 0);
+        due("a try of round 0", x, x.begin(0, 0, 0), 0, 0);
+        Check.due("its round", x.tried(0, 1), 0);
+        Check.due("its hold", x.tried(0, 5), 0);
+        Check.due("it is open", x.tried(0, 6), 0);
+        x.fall(0, 0, false);
+        due("points", x, x.of(0, 0, 0, 0, 6), 2, 0);
+        for (int i = 0; i < 3; i++) {
+            Texts.load(x, "points 1*(2+-(((((((1");
+            due("an expression behind one that ended too early", x, Texts.load(x, "points 2*-(-(-(-(3))))-7;"), 0, 0);
+        }
+        Texts.load(x, "points 1 1");
+        due("untold", x, Texts.load(x, "round 1 5 10 0;round 1 5 10 0;"), 2, 0);
+        x.climber();
+        x.climber();
+        climb(x, 1, 0, 10, 1);
+        refused("untold: one key", x, x.key(0, 0, 0, 1), 1);
+        due("untold: the sum", x, x.key(0, 1, 0, 0), 100, 0);
+        due("untold: down", x, x.rank(0, 1, 0), 1, 0);
+        x.advance(2, 0);
+        due("untold: ties are shared", x, x.rank(1, 0, 0), 1, 0);
     }
 
     private static void promise5() {
@@ -359,6 +401,11 @@ public final class PromiseTest {
         Check.due("it has ended", x.tried(0, 4), 8);
         Check.due("by topping", x.tried(0, 6), 1);
         refused("so she has none", x, x.reach(0, 6, 8), 5);
+        RouteWall high = Texts.wall("round 1 3 20 0;", 1);
+        high.route(0, 0, 60, 0, 0, 0);
+        high.begin(0, 0, 0);
+        due("hold 59 of 60", high, high.reach(0, 59, 0), 0, 0);
+        due("hold 60", high, high.reach(0, 60, 0), 1, 0);
         x.begin(1, 0, 10);
         due("a second ahead of the end", x, x.reach(1, 1, 29), 0, 0);
         refused("her seconds are over", x, x.reach(1, 2, 30), 5);
@@ -693,6 +740,7 @@ public final class PromiseTest {
         refused("day -1", x, x.key(0, 0, -1, 0), 2);
         refused("day 1000", x, x.key(0, 0, 1000, 0), 2);
         x.appeal(0, 5, 7);
+        x.clock(-1);
         due("sum on day 7", x, x.key(0, 0, 7, 0), 98, 0);
         due("tops on day 7", x, x.key(0, 0, 7, 2), 2, 0);
         x = threeRoutes("points 0-999999*999999;keys up most,down sum;");
@@ -745,6 +793,7 @@ public final class PromiseTest {
         climb(x, 2, 0, 3, 1);
         climb(x, 1, 0, 2, 1);
         x.advance(3, 0);
+        Check.due("nobody comes two rounds on", x.told(2, NONE, 4), 0);
         x.advance(3, 0);
         ranks("two rounds back", x, 2, 0, 3, 2, 1);
     }
