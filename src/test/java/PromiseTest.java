@@ -182,6 +182,11 @@ public final class PromiseTest {
             Texts.load(x, "points 1*(2+-(((((((1");
             due("an expression behind one that ended too early", x, Texts.load(x, "points 2*-(-(-(-(3))))-7;"), 0, 0);
         }
+        Texts.load(x, "points --;");
+        Texts.load(x, "points -");
+        due("a minus that found no factor is gone", x, Texts.load(x, "points 5;round 1 1 10 0;"), 1, 0);
+        x.climber();
+        Check.due("its points", x.of(0, 0, 0, 0, 6), 5);
         Texts.load(x, "points 1 1");
         due("untold", x, Texts.load(x, "round 1 5 10 0;round 1 5 10 0;"), 2, 0);
         x.climber();
