@@ -7,6 +7,7 @@ public final class PromiseTest {
         promise2();
         promise3();
         promise4();
+        promise4Cut();
         promise4Again();
         promise5();
         FaultCases.run();
@@ -153,6 +154,29 @@ public final class PromiseTest {
         Check.due("a text may end by a law without rounds", Texts.load(x, "ties back;"), 0);
     }
 
+    /** A text ends at n, even within a word or a number that goes on behind it on the tape. */
+    private static void promise4Cut() {
+        RouteWall x = new RouteWall();
+        Texts.feed(x, "ties backs;");
+        refused("cut within a word", x, x.load(9), 10);
+        Check.due("the end can't stand there", x.fault(0), 2);
+        Check.due("the text's length", x.fault(1), 9);
+        Texts.feed(x, "round 12");
+        refused("cut within a number", x, x.load(7), 10);
+        Check.due("the end can't stand there", x.fault(0), 2);
+        Check.due("the text's length", x.fault(1), 7);
+        Texts.feed(x, "ties back;?");
+        due("what is behind n is no part of it", x, x.load(10), 0, 0);
+        Texts.feed(x, " ".repeat(690) + "points top");
+        refused("a word at the end of 700 bytes", x, x.load(700), 10);
+        Check.due("the text's length", x.fault(1), 700);
+        Texts.feed(x, ";".repeat(700));
+        refused("700 tokens", x, x.load(700), 10);
+        Check.due("the first of them", x.fault(1), 0);
+        Texts.feed(x, "points 1" + " ".repeat(691) + ";");
+        due("a sign at the end of 700 bytes", x, x.load(700), 0, 0);
+    }
+
     /** Nothing of an earlier text, or of a contest under it, is left behind a new one. */
     private static void promise4Again() {
         RouteWall x = new RouteWall();
@@ -197,6 +221,11 @@ public final class PromiseTest {
         due("untold: down", x, x.rank(0, 1, 0), 1, 0);
         x.advance(2, 0);
         due("untold: ties are shared", x, x.rank(1, 0, 0), 1, 0);
+        Texts.load(x, "round 1 5 10 0;");
+        x.climber();
+        x.climber();
+        x.out(0, 1, true);
+        Check.due("an old try shows nobody anything", x.seen(0, 0), 0);
     }
 
     private static void promise5() {
@@ -356,6 +385,8 @@ public final class PromiseTest {
         x.clock(4000);
         refused("300 in all", x, x.begin(15, 4, 4000), 3);
         refused("no 300th number", x, x.tried(300, 0), 1);
+        due("results of 300 tries", x, x.of(0, 4, 0, 0, 3), 1, 0);
+        due("a rank among them", x, x.rank(0, 0, 0), 1, 0);
         Check.due("the last one", x.tried(299, 3), 2995);
         x.out(15, 4000, true);
         refused("3 ahead of 7", x, x.begin(15, 4, 4000), 3);
@@ -748,6 +779,7 @@ public final class PromiseTest {
         x.clock(-1);
         due("sum on day 7", x, x.key(0, 0, 7, 0), 98, 0);
         due("tops on day 7", x, x.key(0, 0, 7, 2), 2, 0);
+        due("zones of each route alone", x, x.key(0, 0, 7, 3), 4, 0);
         x = threeRoutes("points 0-999999*999999;keys up most,down sum;");
         due("a sum is not bounded", x, x.key(0, 3, 0, 1), -3000000000L, 0);
         due("most of negative ones", x, x.key(0, 3, 0, 0), -1000000000L, 0);
@@ -794,6 +826,9 @@ public final class PromiseTest {
         ranks("ties go back to what is known on that day", x, 1, 4, 1, 1, 3);
         climb(x, 1, 0, 1, 1);
         ranks("only if none differs", x, 1, 4, 2, 1, 3);
+        x = Texts.wall("round 1 1 10 0;keys up tops,up zones,up zones,up most;points hold*0+1;", 3);
+        climb(x, 2, 0, 10, 1);
+        ranks("four keys, each of her own", x, 0, 0, 1, 1, 3);
         x = Texts.wall("round 1 1 10 0;round 1 1 10 0;round 1 1 10 0;ties back;points hold;", 3);
         climb(x, 2, 0, 3, 1);
         climb(x, 1, 0, 2, 1);
@@ -914,6 +949,12 @@ public final class PromiseTest {
         climb(x, 0, 0, 1, 1);
         due("only climbers in it make pairs", x, x.parts(1, 1, 0), x.told(1, NONE, 4) - 1, 0);
         due("round 0 has all", x, x.parts(0, 1, 0), 4, 0);
+        x = Texts.wall("round 5 1 10 0;points hold;", 16);
+        climb(x, 15, 4, 3, 1);
+        due("16 climbers, all routes", x, x.parts(0, 31, 0), 15, 0);
+        due("the last route", x, x.parts(0, 16, 0), 15, 0);
+        due("the others", x, x.parts(0, 15, 0), 0, 0);
+        due("her rank", x, x.rank(0, 15, 0), 1, 0);
     }
 
     private static void promise25() {
@@ -927,6 +968,9 @@ public final class PromiseTest {
         due("one on day 3", x, x.choose(0, 1, 3), 2, 0);
         due("two on day 3", x, x.choose(0, 2, 3), 6, 0);
         due("without climbers the least", x, x.choose(1, 1, 0), 1, 0);
+        x.advance(4, 0);
+        x.choose(0, 1, 0);
+        due("routes of another round count nothing", x, x.choose(1, 1, 0), 1, 0);
         refused("none", x, x.choose(0, 0, 0), 2);
         refused("-1", x, x.choose(0, -1, 0), 2);
         refused("more than there are", x, x.choose(0, 4, 0), 2);
