@@ -1,18 +1,6 @@
 /** Texts with the fault that is due and its place; 0 and NONE without one. */
-final class FaultCases {
+final class FaultCases extends Calls {
     private FaultCases() {
-    }
-
-    private static void fault(String text, int kind, int place) {
-        RouteWall x = new RouteWall();
-        Texts.load(x, text);
-        Check.due("fault(0) of " + text, x.fault(0), kind);
-        Check.due("fault(1) of " + text, x.fault(1), place);
-        Check.due("status of " + text, x.status(), kind == 0 ? 0 : 10);
-    }
-
-    private static void right(String text) {
-        fault(text, 0, RouteWall.NONE);
     }
 
     static void run() {

@@ -1,7 +1,5 @@
 /** For each promise of the document: ordinary calls, the edges it names, and wrong inputs. */
-public final class PromiseTest {
-    private static final int NONE = RouteWall.NONE;
-
+public final class PromiseTest extends Calls {
     public static void main(String[] args) {
         promise1();
         promise2();
@@ -34,35 +32,6 @@ public final class PromiseTest {
         promise24();
         promise25();
         Check.finish();
-    }
-
-    /** What a call answered, and the STATUS behind it. */
-    private static void due(String what, RouteWall x, long got, long want, int status) {
-        Check.due(what, got, want);
-        Check.due(what + ": status()", x.status(), status);
-    }
-
-    private static void due(String what, RouteWall x, boolean got, boolean want, int status) {
-        due(what, x, got ? 1 : 0, want ? 1 : 0, status);
-    }
-
-    private static void refused(String what, RouteWall x, long got, int status) {
-        due(what, x, got, NONE, status);
-    }
-
-    private static void refused(String what, RouteWall x, boolean got, int status) {
-        due(what, x, got, false, status);
-    }
-
-    /** One try of a climber that comes to a hold, takes so many seconds and ends; its number. */
-    private static int climb(RouteWall x, int climber, int route, int hold, int seconds) {
-        int number = x.begin(climber, route, x.now());
-        int end = x.now() + seconds;
-        boolean topped = hold > 0 && x.reach(climber, hold, end) == 1;
-        if (!topped) {
-            x.fall(climber, end, false);
-        }
-        return number;
     }
 
     private static void promise1() {
@@ -716,7 +685,7 @@ public final class PromiseTest {
         due("one not in that round has nothing there", x, x.of(1, 0, 1, 0, 6), 0, 0);
     }
 
-    private static void worth(String expression, int due) {
+    private static void worthOfHerBest(String expression, int due) {
         RouteWall x = Texts.wall("round 1 9 20 0;points " + expression + ";", 1);
         x.route(0, 0, 8, 2, 4, 6);
         climb(x, 0, 0, 1, 1);
@@ -726,31 +695,31 @@ public final class PromiseTest {
 
     /** Worked out for: top 0, zone 3, hold 7, tries 2, seconds 13, flash 0. */
     private static void promise19Expressions() {
-        worth("100*top+zone", 3);
-        worth("hold-tries-seconds", -8);
-        worth("hold-(tries-seconds)", 18);
-        worth("1+hold*tries-3*zone", 6);
-        worth("(1+hold)*(tries-zone)", -8);
-        worth("-hold*tries", -14);
-        worth("2*-hold+1", -13);
-        worth("--hold", 7);
-        worth("-(hold+-tries)-1", -6);
-        worth("-(-(-(-(zone*2))))", 6);
-        worth("flash+top", 0);
-        worth("999999*999999", 1000000000);
-        worth("-999999*999999", -1000000000);
-        worth("999999*999999-1", 999999999);
-        worth("999999*1000+999999+999999", 1000000000);
-        worth("999999*1000+999999+999999-999999", 999000001);
-        worth("0-999999*1000-999999-999999+1", -999999999);
-        worth("999999*999999*0", 0);
-        worth("999999*999999*999999*999999*(0-1)", -1000000000);
-        worth("000007", 7);
-        worth("1+1+1+1+1+1+1+1+1+1+1+1+1+1+1+1+1+1+1-tries", 17);
-        worth("((((((((hold))))))))", 7);
-        worth("1*2*3*4*5*6*7*8*9*10*11*12*13", 1000000000);
-        worth("1+2*3-4*5+6*7-8", 21);
-        worth("zone-(hold-(seconds-(tries-1)))", 8);
+        worthOfHerBest("100*top+zone", 3);
+        worthOfHerBest("hold-tries-seconds", -8);
+        worthOfHerBest("hold-(tries-seconds)", 18);
+        worthOfHerBest("1+hold*tries-3*zone", 6);
+        worthOfHerBest("(1+hold)*(tries-zone)", -8);
+        worthOfHerBest("-hold*tries", -14);
+        worthOfHerBest("2*-hold+1", -13);
+        worthOfHerBest("--hold", 7);
+        worthOfHerBest("-(hold+-tries)-1", -6);
+        worthOfHerBest("-(-(-(-(zone*2))))", 6);
+        worthOfHerBest("flash+top", 0);
+        worthOfHerBest("999999*999999", 1000000000);
+        worthOfHerBest("-999999*999999", -1000000000);
+        worthOfHerBest("999999*999999-1", 999999999);
+        worthOfHerBest("999999*1000+999999+999999", 1000000000);
+        worthOfHerBest("999999*1000+999999+999999-999999", 999000001);
+        worthOfHerBest("0-999999*1000-999999-999999+1", -999999999);
+        worthOfHerBest("999999*999999*0", 0);
+        worthOfHerBest("999999*999999*999999*999999*(0-1)", -1000000000);
+        worthOfHerBest("000007", 7);
+        worthOfHerBest("1+1+1+1+1+1+1+1+1+1+1+1+1+1+1+1+1+1+1-tries", 17);
+        worthOfHerBest("((((((((hold))))))))", 7);
+        worthOfHerBest("1*2*3*4*5*6*7*8*9*10*11*12*13", 1000000000);
+        worthOfHerBest("1+2*3-4*5+6*7-8", 21);
+        worthOfHerBest("zone-(hold-(seconds-(tries-1)))", 8);
     }
 
     private static RouteWall threeRoutes(String laws) {
