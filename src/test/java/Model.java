@@ -482,7 +482,8 @@ final class Model {
 
     private boolean hasSeen(int climber, int route) {
         int open = open();
-        for (int s = 0; s <= now; s++) {
+        int firstOut = spells.stream().filter(p -> p.climber == climber).mapToInt(p -> p.from).min().orElse(now + 1);
+        for (int s = firstOut; s <= now; s++) {
             int second = s;
             boolean out = spells.stream().anyMatch(p -> p.climber == climber && p.from <= second
                 && (p.to[0] < 0 || second <= p.to[0]));

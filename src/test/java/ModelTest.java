@@ -18,6 +18,8 @@ public final class ModelTest {
             ModelTest test = new ModelTest(seed);
             if (seed % 3 == 0) {
                 test.texts();
+            } else if (seed % 25 == 1) {
+                test.fullContest();
             } else {
                 test.contest();
             }
@@ -219,6 +221,40 @@ public final class ModelTest {
             load(contestText());
             same("climber()", x.climber(), m.climber());
         }
+        askAll();
+    }
+
+    /** Sixteen climbers near the last second, as many tries, appeals and times out as there may be, and more. */
+    private void fullContest() {
+        load("round 5 " + from(5, 9) + " 10 " + from(0, 1) + ";round 2 9 10 0;keys down sum,up most;ties back;"
+            + "points hold*" + pick("1", "7", "999999*999") + "-tries;");
+        for (int i = 0; i < 17; i++) {
+            same("climber()", x.climber(), m.climber());
+        }
+        int first = 1_000_000 - from(900, 1300);
+        same("clock(" + first + ")", asInt(x.clock(first)), m.clock(first));
+        for (int i = 0; i < 330; i++) {
+            int climber = i % 16;
+            int second = m.now + (oneIn(4) ? 0 : from(1, 6));
+            int route = (i / 16 + from(0, oneIn(9) ? 1 : 0)) % 5;
+            same("begin(" + climber + ", " + route + ", " + second + ")",
+                x.begin(climber, route, second), m.begin(climber, route, second));
+            if (oneIn(3)) {
+                int hold = from(1, 10);
+                same("reach(" + climber + ", " + hold + ", " + second + ")",
+                    x.reach(climber, hold, second), m.reach(climber, hold, second));
+            }
+            if (oneIn(5)) {
+                appeal();
+            }
+            boolean out = i % 2 == 0;
+            if (i % 16 < 8) {
+                same("out(15, " + m.now + ", " + out + ")", asInt(x.out(15, m.now, out)), m.out(15, m.now, out));
+            }
+            ask();
+        }
+        clearAll();
+        advance();
         askAll();
     }
 

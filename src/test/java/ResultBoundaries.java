@@ -19,6 +19,7 @@ final class ResultBoundaries extends Calls {
         secondsOfTheTry();
         flash();
         nothingWithoutATry();
+        eachRouteOfEachRound();
         ofArguments();
         sumsBeyondAnInt();
         mostOfThem();
@@ -305,6 +306,25 @@ final class ResultBoundaries extends Calls {
         due("points by it", x, x.of(0, 0, 0, 0, 6), 6, 0);
         x.fall(0, 0, true);
         due("a broken one is none", x, x.of(0, 0, 0, 0, 3), 0, 0);
+    }
+
+    private static void eachRouteOfEachRound() {
+        Check.sentence("Of a CLIMBER on a ROUTE as known on a DAY");
+        RouteWall x = Texts.wall("round 5 9 99 0;".repeat(4), 2);
+        for (int round = 0; round < 4; round++) {
+            for (int route = 0; route < 5; route++) {
+                x.route(round, route, 60, 0, 0, 0);
+                climb(x, 1, route, 1 + 5 * round + route, 0);
+            }
+            x.advance(2, 0);
+        }
+        for (int round = 0; round < 4; round++) {
+            for (int route = 0; route < 5; route++) {
+                due("hold", x, x.of(round, route, 1, 0, 2), 1 + 5 * round + route, 0);
+                due("tries", x, x.of(round, route, 1, 0, 3), 1, 0);
+                due("the other's hold", x, x.of(round, route, 0, 0, 2), 0, 0);
+            }
+        }
     }
 
     private static void ofArguments() {
@@ -604,11 +624,18 @@ final class ResultBoundaries extends Calls {
         x.advance(3, 8);
         starts(x, 2, 2, 3, 4);
         starts(x, 1, 4, 1, 2, 0, 3);
-        x = Texts.wall("round 1 9 99 0;round 1 9 99 0;points hold;", 3);
-        climb(x, 0, 0, 6, 0);
-        x.appeal(0, 0, 8);
-        x.advance(3, 8);
-        starts(x, 1, 2, 1, 0);
+        for (int day = 7; day <= 9; day++) {
+            x = Texts.wall("round 1 9 99 0;round 1 9 99 0;points hold;", 3);
+            climb(x, 0, 0, 6, 0);
+            climb(x, 1, 0, 3, 0);
+            x.appeal(0, 1, 8);
+            x.advance(3, day);
+            if (day < 8) {
+                starts(x, 1, 2, 1, 0);
+            } else {
+                starts(x, 1, 2, 0, 1);
+            }
+        }
     }
 
     private static void orderArguments() {

@@ -4,6 +4,7 @@ final class StatusBoundaries extends Calls {
     }
 
     static void run() {
+        newObject();
         callsWithoutStatus();
         everyOtherCallHasOne();
         load();
@@ -27,6 +28,50 @@ final class StatusBoundaries extends Calls {
         advance();
         partsAndChoose();
         calls512();
+    }
+
+    private static void newObject() {
+        Check.sentence("No ROUNDS, no CLIMBERS, an empty tape; STATUS 0.");
+        RouteWall x = new RouteWall();
+        Check.due("status()", x.status(), 0);
+        due("now()", x, x.now(), 0, 0);
+        refused("load(1)", x, x.load(1), 2);
+        Check.due("fault(0)", x.fault(0), NONE);
+        Check.due("feed()", x.feed(0, 0, 0, 0, 0), 20);
+        emptyContest(new RouteWall());
+        Check.sentence("how many ROUNDS (2: n below 0, or more than the tape has");
+        x = new RouteWall();
+        due("no byte, no round", x, x.load(0), 0, 0);
+        emptyContest(x);
+        x = Texts.wall("round 5 9 99 0;", 16);
+        x.begin(0, 0, 0);
+        due("ties alone, no round", x, Texts.load(x, "ties back;"), 0, 0);
+        emptyContest(x);
+    }
+
+    private static void emptyContest(RouteWall x) {
+        refused("climber", x, x.climber(), 1);
+        refused("route", x, x.route(0, 0, 10, 0, 0, 0), 1);
+        refused("told of a round", x, x.told(0, NONE, 0), 1);
+        refused("told of a route", x, x.told(0, 0, 0), 1);
+        refused("begin", x, x.begin(0, 0, 5), 1);
+        refused("reach", x, x.reach(0, 1, 5), 1);
+        refused("fall", x, x.fall(0, 5, false), 1);
+        refused("out", x, x.out(0, 5, true), 1);
+        due("no second went on", x, x.now(), 0, 0);
+        refused("tried", x, x.tried(0, 0), 1);
+        refused("seen", x, x.seen(0, 0), 1);
+        refused("ready", x, x.ready(0), 1);
+        refused("appeal", x, x.appeal(0, 0, 0), 1);
+        refused("of", x, x.of(0, 0, 0, 0, 0), 1);
+        refused("key", x, x.key(0, 0, 0, 0), 1);
+        refused("rank", x, x.rank(0, 0, 0), 1);
+        refused("advance", x, x.advance(1, 0), 10);
+        refused("order", x, x.order(0, 0), 1);
+        refused("parts", x, x.parts(0, 0, 0), 1);
+        refused("choose", x, x.choose(0, 1, 0), 1);
+        due("clock", x, x.clock(5), true, 0);
+        due("it goes on", x, x.now(), 5, 0);
     }
 
     private static void callsWithoutStatus() {

@@ -22,9 +22,11 @@ final class TextBoundaries extends Calls {
         keysOfAText();
         expressionParts();
         untold();
+        untoldBehindOthers();
         roundsAreNumbered();
         firstAlongTheText();
         leastKindOfAToken();
+        whatCanStandThere();
         placeOfTheEnd();
         fifthRound();
         fortyItems();
@@ -267,6 +269,8 @@ final class TextBoundaries extends Calls {
         fault("points 1+;", 2, 9);
         fault("points 1-;", 2, 9);
         fault("points 1++1;", 2, 9);
+        worth("1+1*(".repeat(8) + "1+1*1" + ")".repeat(8), 10);
+        worth("1-2*(".repeat(8) + "1-2*1" + ")".repeat(8), -341);
         Check.sentence("TERM: FACTOR {* FACTOR}.");
         worth("2" + "*1".repeat(19), 2);
         worth("2*3+4*5", 26);
@@ -327,6 +331,37 @@ final class TextBoundaries extends Calls {
         due("told, ties go back", x, x.rank(1, 1, 0), 2, 0);
     }
 
+    private static void untoldBehindOthers() {
+        Check.sentence("Of what isn't told: points 100 * top + zone");
+        RouteWall x = new RouteWall();
+        Texts.load(x, "points 5-top;keys up zones,up zones,up zones,up zones;ties back;round 1 1 10 0;");
+        Texts.load(x, "points 1*(2+-(((((1");
+        Texts.load(x, "keys up tops,up tops");
+        Texts.load(x, "round 1 9 99 0;round 1 9 99 0;");
+        x.climber();
+        x.climber();
+        climb(x, 1, 0, 10, 1);
+        due("points", x, x.of(0, 0, 1, 0, 6), 100, 0);
+        due("the sum", x, x.key(0, 1, 0, 0), 100, 0);
+        refused("one key", x, x.key(0, 1, 0, 1), 1);
+        due("down", x, x.rank(0, 1, 0), 1, 0);
+        x.advance(2, 0);
+        due("ties are shared", x, x.rank(1, 0, 0), 1, 0);
+        for (String cut : new String[] {"points ((((((((1", "points --------", "points " + ITEMS_38 + "-1", "points ?"}) {
+            Texts.load(x, cut);
+            Check.due("a fault", x.status(), 10);
+            due("nested behind " + cut, x, Texts.load(x, "points --------1+((((((((1))))))));"), 0, 0);
+            Texts.load(x, cut);
+            due("forty behind " + cut, x, Texts.load(x, "points " + ITEMS_38 + "-1;"), 0, 0);
+            Texts.load(x, cut);
+            refused("no ( to close behind " + cut, x, Texts.load(x, "points 1);"), 10);
+            Texts.load(x, cut);
+            Texts.load(x, "points 7;round 1 1 10 0;");
+            x.climber();
+            due("points behind " + cut, x, x.of(0, 0, 0, 0, 6), 7, 0);
+        }
+    }
+
     private static void roundsAreNumbered() {
         Check.sentence("ROUNDS are numbered from 0 on as they are told.");
         RouteWall x = Texts.wall("ties back;" + FOUR_ROUNDS, 0);
@@ -378,6 +413,33 @@ final class TextBoundaries extends Calls {
         fault("points 1 points 1;", 2, 9);
         fault("keys up keys up sum;", 2, 8);
         fault("ties ties back;", 2, 5);
+    }
+
+    /** Behind each beginning of a text every token there is: those that can stand there, and all the others. */
+    private static void whatCanStandThere() {
+        Check.sentence("2 it can't stand there");
+        String factor = " 1 top zone hold tries seconds flash - ( ";
+        String[][] places = {{"", " round points keys ties "}, {"ties back ;", " round points keys "},
+            {"round", " 1 "}, {"round 1 1 10 0", " ; "}, {"points", factor}, {"points -", factor}, {"points (", factor},
+            {"points 1 +", factor}, {"points 1 -", factor}, {"points 1 *", factor}, {"points 1", " + - * ; "},
+            {"points top", " + - * ; "}, {"points - 1", " + - * ; "}, {"points ( 1 )", " + - * ; "},
+            {"points ( 1", " + - * ) "}, {"points ( - 1", " + - * ) "}, {"keys", " up down "},
+            {"keys up", " sum most tops zones "}, {"keys up sum", " , ; "}, {"keys up sum ,", " up down "},
+            {"ties", " back shared "}, {"ties back", " ; "}, {"ties shared", " ; "}};
+        String[] tokens = ("round points keys ties back shared up down sum most tops zones top zone hold tries seconds"
+            + " flash x 1 + - * ( ) , ;").split(" ");
+        for (String[] place : places) {
+            for (String token : tokens) {
+                String text = place[0] + " " + token;
+                RouteWall x = new RouteWall();
+                Texts.load(x, text);
+                boolean stands = place[1].contains(" " + token + " ");
+                boolean again = place[0].startsWith("ties back ;") && token.equals("ties");
+                int at = place[0].length() + 1;
+                Check.due("can't stand: " + text, x.fault(1) == at && x.fault(0) == 2, !stands && !again);
+                Check.due("a fault there: " + text, x.fault(1) == at, !stands);
+            }
+        }
     }
 
     private static void placeOfTheEnd() {
@@ -435,6 +497,9 @@ final class TextBoundaries extends Calls {
         }
         right("points " + "(1)+".repeat(19) + "(1);");
         right("points " + "-1+".repeat(13) + "1;");
+        right("points " + "-(1)+".repeat(13) + "1;");
+        right("points " + "-(1)*".repeat(13) + "1;");
+        right("points " + "(-1)-".repeat(13) + "1;");
         right("points ((((((((1))))))))*((((((((1))))))));");
         right("points --------1+--------1;");
         right("points (((((((-1))))))) * (((((((-1)))))));");
@@ -612,6 +677,22 @@ final class TextBoundaries extends Calls {
         x.fall(0, 0, false);
         due("no appeal", x, x.of(0, 0, 0, 999, 2), 0, 0);
         refused("she is in", x, x.out(0, 0, false), 10);
+        Texts.load(x, "round 1 9 10 9;round 1 9 10 9;");
+        x.climber();
+        x.advance(1, 0);
+        x.out(0, 4, true);
+        x.begin(0, 0, 5);
+        Texts.load(x, "round 1 9 10 9;round 1 9 10 9;");
+        refused("no climber", x, x.ready(0), 1);
+        x.climber();
+        due("no open try", x, x.ready(0), 0, 0);
+        due("nobody in round 1", x, x.told(1, NONE, 4), 0, 0);
+        refused("nor out", x, x.out(0, 0, false), 10);
+        due("her first try", x, x.begin(0, 0, 0), 0, 0);
+        due("of round 0", x, x.tried(0, 1), 0, 0);
+        due("it has not ended", x, x.tried(0, 4), NONE, 0);
+        due("it is open", x, x.tried(0, 6), 0, 0);
+        due("at no hold", x, x.tried(0, 5), 0, 0);
     }
 
     private static void tapeBehindLoads() {

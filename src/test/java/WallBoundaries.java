@@ -345,6 +345,7 @@ final class WallBoundaries extends Calls {
                 due("it is that second", x, x.now(), second, 0);
             }
         }
+        Check.sentence("9 a second that is gone.");
         RouteWall x = new RouteWall();
         x.clock(1000000);
         refused("one ahead of the last", x, x.clock(999999), 9);
