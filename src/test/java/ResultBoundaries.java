@@ -440,11 +440,16 @@ final class ResultBoundaries extends Calls {
             climb(x, 0, 0, 10, 0);
             due("first " + keys[i], x, x.rank(0, 0, 0), due[i][0], 0);
         }
-        RouteWall x = Texts.wall("round 1 9 20 0;points hold;", 2);
-        climb(x, 0, 0, 4, 0);
-        climb(x, 1, 0, 4, 0);
-        due("none differs", x, x.rank(0, 0, 0), 1, 0);
-        due("none differs", x, x.rank(0, 1, 0), 1, 0);
+        for (String four : new String[] {"down sum", "down sum,up most,down tops,up zones"}) {
+            RouteWall x = Texts.wall("round 1 9 20 0;points hold;keys " + four + ";", 4);
+            climb(x, 0, 0, 4, 0);
+            climb(x, 1, 0, 4, 0);
+            climb(x, 3, 0, 4, 0);
+            int[] ranks = {1, 1, 4, 1};
+            for (int climber = 0; climber < 4; climber++) {
+                due("none differs but the third", x, x.rank(0, climber, 0), ranks[climber], 0);
+            }
+        }
     }
 
     private static void tiesGoBack() {
@@ -744,5 +749,14 @@ final class ResultBoundaries extends Calls {
         }
         RouteWall x = Texts.wall("round 5 9 99 0;", 0);
         due("without climbers", x, x.choose(0, 3, 0), 7, 0);
+        x = Texts.wall("round 5 9 99 0;round 2 9 99 0;points hold;", 2);
+        for (int route = 0; route < 5; route++) {
+            climb(x, 1, route, 4, 0);
+        }
+        x.advance(2, 0);
+        for (int many = 1; many <= 2; many++) {
+            due("of five", x, x.choose(0, many, 0), least[many], 0);
+            due("of two, on which nobody climbed", x, x.choose(1, many, 0), least[many], 0);
+        }
     }
 }

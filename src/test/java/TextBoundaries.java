@@ -21,6 +21,7 @@ final class TextBoundaries extends Calls {
         roundNumbers();
         keysOfAText();
         expressionParts();
+        namesOfAnExpression();
         untold();
         untoldBehindOthers();
         roundsAreNumbered();
@@ -54,6 +55,10 @@ final class TextBoundaries extends Calls {
         fault(" ".repeat(699) + "x", 2, 699);
         fault("x" + " ".repeat(699), 2, 0);
         fault("a".repeat(700), 2, 0);
+        for (String word : new String[] {"r", "roun", "round", "point", "fla", "flas", "flash", "sharedd"}) {
+            boolean begins = word.equals("round");
+            fault(" ".repeat(700 - word.length()) + word, 2, begins ? 700 : 700 - word.length());
+        }
         fault("1".repeat(700), 1, 0);
         fault("points " + "(".repeat(693), 3, 15);
         right("ties back;" + "\n".repeat(675) + "round 1 1 10 0;");
@@ -297,6 +302,34 @@ final class TextBoundaries extends Calls {
         fault("points (,);", 2, 8);
         fault("points up;", 2, 7);
         fault("points points;", 2, 7);
+    }
+
+    /** Climber 0 flashes route 0 in six seconds with two zones; on route 1 her third try comes to hold 7 in four. */
+    private static int worked(String expression, int route) {
+        RouteWall x = Texts.wall("round 2 9 99 0;points " + expression + ";", 1);
+        x.route(0, 0, 5, 2, 4, 0);
+        x.route(0, 1, 9, 1, 2, 3);
+        climb(x, 0, 0, 5, 6);
+        climb(x, 0, 1, 0, 1);
+        climb(x, 0, 1, 6, 2);
+        climb(x, 0, 1, 7, 4);
+        return x.of(0, route, 0, 0, 6);
+    }
+
+    private static void namesOfAnExpression() {
+        Check.sentence("top, zone, hold, tries, seconds, flash");
+        String[] names = {"top", "zone", "hold", "tries", "seconds", "flash"};
+        int[][] due = {{1, 2, 5, 1, 6, 1}, {0, 3, 7, 3, 4, 0}};
+        for (int route = 0; route < 2; route++) {
+            for (int i = 0; i < names.length; i++) {
+                Check.due(names[i], worked(names[i], route), due[route][i]);
+                Check.due("-" + names[i], worked("-" + names[i], route), -due[route][i]);
+                for (int k = 0; k < names.length; k++) {
+                    Check.due(names[i] + "*10-" + names[k], worked(names[i] + "*10-" + names[k], route),
+                        due[route][i] * 10 - due[route][k]);
+                }
+            }
+        }
     }
 
     private static RouteWall toppedInFive(String laws) {
