@@ -60,6 +60,8 @@ final class TextBoundaries extends Calls {
             fault(" ".repeat(700 - word.length()) + word, 2, begins ? 700 : 700 - word.length());
         }
         fault("1".repeat(700), 1, 0);
+        fault(";".repeat(700), 2, 0);
+        fault("points " + "+".repeat(693), 2, 7);
         fault("points " + "(".repeat(693), 3, 15);
         right("ties back;" + "\n".repeat(675) + "round 1 1 10 0;");
     }
