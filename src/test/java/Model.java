@@ -293,11 +293,11 @@ final class Model {
         return value >= least && value <= greatest;
     }
 
-    int feed(int... five) {
+    int feed(int a, int b, int c, int d, int e) {
         if (tape.size() + 20 > 700) {
             return -1;
         }
-        for (int word : five) {
+        for (int word : new int[] {a, b, c, d, e}) {
             for (int i = 3; i >= 0; i--) {
                 tape.add(word >> 8 * i & 255);
             }
@@ -375,7 +375,8 @@ final class Model {
         return yes(climbers++);
     }
 
-    int route(int round, int route, int holds, int... zones) {
+    int route(int round, int route, int holds, int one, int two, int three) {
+        int[] zones = {one, two, three};
         if (!hasRoute(round, route)) {
             return no(1) + 1;
         }

@@ -3,28 +3,37 @@ import java.util.Random;
 /** Runs of calls with fixed seeds on the class and on the Model; every answer and STATUS must be the same. */
 public final class ModelTest {
     private final Random dice;
-    private final RouteWall x = new RouteWall();
-    private final Model m = new Model();
-    private final String run;
+    private final Pair pair;
+    private final Model m;
 
     private ModelTest(long seed) {
         dice = new Random(seed);
-        run = "seed " + seed + ": ";
+        pair = new Pair("seed " + seed);
+        m = pair.m;
     }
 
     public static void main(String[] args) {
         int runs = args.length > 0 ? Integer.parseInt(args[0]) : 1500;
         for (int seed = 0; seed < runs; seed++) {
-            ModelTest test = new ModelTest(seed);
-            if (seed % 3 == 0) {
-                test.texts();
-            } else if (seed % 25 == 1) {
-                test.fullContest();
-            } else {
-                test.contest();
-            }
+            new ModelTest(seed).run(seed % 25);
         }
         Check.finish();
+    }
+
+    private void run(int kind) {
+        if (kind < 8) {
+            texts();
+        } else if (kind < 11) {
+            season();
+        } else if (kind < 14) {
+            alikeInAllRounds();
+        } else if (kind == 14) {
+            fullContest(335, 12, 12, 40);
+        } else if (kind == 15) {
+            fullContest(150, 9, 2, 2);
+        } else {
+            contest();
+        }
     }
 
     private boolean oneIn(int many) {
@@ -39,13 +48,8 @@ public final class ModelTest {
         return some[dice.nextInt(some.length)];
     }
 
-    private void same(String call, long got, long want) {
-        Check.due(run + call, got, want);
-        Check.due(run + call + " status()", x.status(), m.status);
-    }
-
-    private static int asInt(boolean b) {
-        return b ? 1 : 0;
+    private void call(String name, Object... arguments) {
+        pair.call(name, arguments);
     }
 
     // ---- texts
@@ -127,29 +131,26 @@ public final class ModelTest {
 
     private void feed(String text) {
         for (int i = 0; i < text.length(); i += 20) {
-            int[] five = new int[5];
-            for (int k = 0; k < 5; k++) {
-                five[k] = Texts.four(text, i + 4 * k);
-            }
-            Check.due(run + "feed", x.feed(five[0], five[1], five[2], five[3], five[4]), m.feed(five));
+            call("feed", Texts.four(text, i), Texts.four(text, i + 4), Texts.four(text, i + 8),
+                Texts.four(text, i + 12), Texts.four(text, i + 16));
         }
     }
 
     private void load(String text) {
         feed(text);
         int n = oneIn(20) ? from(-1, 720) : text.length();
-        same("load(" + n + ") of " + text, x.load(n), m.load(n));
+        call("load", n);
         for (int what = -1; what <= 2; what++) {
-            Check.due(run + "fault(" + what + ") of " + text, x.fault(what), m.fault(what));
+            call("fault", what);
         }
     }
 
     private void texts() {
-        for (int i = 0; i < 60; i++) {
+        for (int i = 0; i < 60 && !pair.isFull(); i++) {
             load(oneIn(3) ? text() : spoiled(text()));
             for (int round = 0; round < 4; round++) {
                 for (int what = 0; what < 4; what++) {
-                    same("told", x.told(round, -1, what), m.told(round, -1, what));
+                    call("told", round, -1, what);
                 }
             }
         }
@@ -201,55 +202,93 @@ public final class ModelTest {
         return text.append(oneIn(3) ? "" : pick("ties back;", "ties shared;")).toString();
     }
 
-    private void contest() {
-        load(contestText());
-        int many = oneIn(6) ? from(14, 18) : from(1, 6);
+    private void enter(int many) {
         for (int i = 0; i < many; i++) {
-            same("climber()", x.climber(), m.climber());
+            call("climber");
         }
-        for (int i = 0; i < 10; i++) {
-            tellRoute();
-        }
-        for (int i = 0; i < 250; i++) {
+    }
+
+    private void actAndAsk(int many) {
+        for (int i = 0; i < many; i++) {
             if (oneIn(3)) {
                 ask();
             } else {
                 act();
             }
         }
-        if (oneIn(300)) {
-            load(contestText());
-            same("climber()", x.climber(), m.climber());
+    }
+
+    private void contest() {
+        load(contestText());
+        enter(oneIn(6) ? from(14, 18) : from(1, 6));
+        for (int i = 0; i < 10; i++) {
+            tellRoute();
+        }
+        actAndAsk(250);
+        askAll();
+    }
+
+    /** Texts read again, some with a fault, and a short contest behind each. */
+    private void season() {
+        for (int i = 0; i < 8 && !pair.isFull(); i++) {
+            load(oneIn(3) ? spoiled(contestText()) : contestText());
+            enter(from(0, 4));
+            tellRoute();
+            tellRoute();
+            actAndAsk(60);
         }
         askAll();
     }
 
-    /** Sixteen climbers near the last second, as many tries, appeals and times out as there may be, and more. */
-    private void fullContest() {
+    /** Four rounds with few sorts of results, so that many are alike and ties go back through all rounds. */
+    private void alikeInAllRounds() {
+        load("round 1 2 10 0;round 1 2 10 0;round 2 1 10 1;round 1 1 10 0;ties " + pick("back;", "back;", "shared;")
+            + "points " + pick("top", "hold", "zone-tries", "hold*hold-2*hold") + ";keys "
+            + pick("up ", "down ") + pick("sum", "most", "tops") + pick("", ",up zones", ",down sum") + ";");
+        enter(from(4, 8));
+        for (int round = 0; round < 4; round++) {
+            call("route", round, 0, 3, from(0, 1), 0, 0);
+            for (int climber = 0; climber < m.climbers; climber++) {
+                shortTry(climber);
+            }
+            for (int i = from(0, 4); i > 0; i--) {
+                call("appeal", number(), from(0, 3), from(0, 5));
+            }
+            call("clock", m.now + 10);
+            call("advance", from(3, 8), from(0, 5));
+        }
+        askAll();
+    }
+
+    private void shortTry(int climber) {
+        if (oneIn(3)) {
+            return;
+        }
+        call("begin", climber, 0, m.now + 1);
+        if (!oneIn(3)) {
+            call("reach", climber, from(1, 3), m.now + 1);
+        }
+        call("fall", climber, m.now, oneIn(5));
+    }
+
+    /** Sixteen climbers near the last second, as many tries, appeals or times out as there may be, and more. */
+    private void fullContest(int begins, int reach, int appeals, int outs) {
         load("round 5 " + from(5, 9) + " 10 " + from(0, 1) + ";round 2 9 10 0;keys down sum,up most;ties back;"
             + "points hold*" + pick("1", "7", "999999*999") + "-tries;");
-        for (int i = 0; i < 17; i++) {
-            same("climber()", x.climber(), m.climber());
-        }
-        int first = 1_000_000 - from(900, 1300);
-        same("clock(" + first + ")", asInt(x.clock(first)), m.clock(first));
-        for (int i = 0; i < 330; i++) {
+        enter(17);
+        call("clock", 1_000_000 - from(900, 1300));
+        for (int i = 0; i < begins; i++) {
             int climber = i % 16;
             int second = m.now + (oneIn(4) ? 0 : from(1, 6));
-            int route = (i / 16 + from(0, oneIn(9) ? 1 : 0)) % 5;
-            same("begin(" + climber + ", " + route + ", " + second + ")",
-                x.begin(climber, route, second), m.begin(climber, route, second));
-            if (oneIn(3)) {
-                int hold = from(1, 10);
-                same("reach(" + climber + ", " + hold + ", " + second + ")",
-                    x.reach(climber, hold, second), m.reach(climber, hold, second));
+            call("begin", climber, (i / 16 + from(0, oneIn(9) ? 1 : 0)) % 5, second);
+            if (oneIn(reach)) {
+                call("reach", climber, from(1, 10), second);
             }
-            if (oneIn(5)) {
+            if (oneIn(appeals)) {
                 appeal();
             }
-            boolean out = i % 2 == 0;
-            if (i % 16 < 8) {
-                same("out(15, " + m.now + ", " + out + ")", asInt(x.out(15, m.now, out)), m.out(15, m.now, out));
+            if (i % outs == 0) {
+                call("out", 15, m.now, i / outs % 2 == 0);
             }
             ask();
         }
@@ -265,8 +304,7 @@ public final class ModelTest {
         int one = from(0, 3);
         int two = oneIn(3) ? from(0, 8) : one == 0 ? 0 : one + from(0, 2);
         int three = oneIn(3) ? from(0, 8) : two == 0 ? 0 : two + 1;
-        same("route(" + round + ", " + route + ", " + holds + ", " + one + ", " + two + ", " + three + ")",
-            asInt(x.route(round, route, holds, one, two, three)), m.route(round, route, holds, one, two, three));
+        call("route", round, route, holds, one, two, three);
     }
 
     private void act() {
@@ -278,8 +316,7 @@ public final class ModelTest {
             case 2:
             case 3:
                 int route = route();
-                same("begin(" + climber + ", " + route + ", " + second + ")",
-                    x.begin(climber, route, second), m.begin(climber, route, second));
+                call("begin", climber, route, second);
                 break;
             case 4:
             case 5:
@@ -287,22 +324,19 @@ public final class ModelTest {
             case 7:
             case 8:
                 int hold = oneIn(20) ? from(-1, 62) : from(1, 10);
-                same("reach(" + climber + ", " + hold + ", " + second + ")",
-                    x.reach(climber, hold, second), m.reach(climber, hold, second));
+                call("reach", climber, hold, second);
                 break;
             case 9:
                 boolean broken = oneIn(3);
-                same("fall(" + climber + ", " + second + ", " + broken + ")",
-                    asInt(x.fall(climber, second, broken)), m.fall(climber, second, broken));
+                call("fall", climber, second, broken);
                 break;
             case 10:
             case 11:
                 boolean out = oneIn(2);
-                same("out(" + climber + ", " + second + ", " + out + ")",
-                    asInt(x.out(climber, second, out)), m.out(climber, second, out));
+                call("out", climber, second, out);
                 break;
             case 12:
-                same("clock(" + second + ")", asInt(x.clock(second)), m.clock(second));
+                call("clock", second);
                 break;
             case 13:
                 appeal();
@@ -318,7 +352,7 @@ public final class ModelTest {
                 if (oneIn(4)) {
                     tellRoute();
                 } else if (oneIn(4)) {
-                    same("climber()", x.climber(), m.climber());
+                    call("climber");
                 } else {
                     clearAll();
                 }
@@ -330,21 +364,20 @@ public final class ModelTest {
         int number = number();
         int hold = from(oneIn(20) ? -1 : 0, 10);
         int day = day();
-        same("appeal(" + number + ", " + hold + ", " + day + ")",
-            asInt(x.appeal(number, hold, day)), m.appeal(number, hold, day));
+        call("appeal", number, hold, day);
     }
 
     private void advance() {
         int most = from(oneIn(20) ? -1 : 1, oneIn(20) ? 18 : 4);
         int day = day();
-        same("advance(" + most + ", " + day + ")", x.advance(most, day), m.advance(most, day));
+        call("advance", most, day);
     }
 
     /** Ends all tries, so that advance() has a chance. */
     private void clearAll() {
         for (int climber = 0; climber < m.climbers; climber++) {
             if (!oneIn(5)) {
-                same("fall", asInt(x.fall(climber, m.now, false)), m.fall(climber, m.now, false));
+                call("fall", climber, m.now, false);
             }
         }
         if (oneIn(2)) {
@@ -359,52 +392,46 @@ public final class ModelTest {
         int day = day();
         switch (dice.nextInt(12)) {
             case 0:
-                same("now()", x.now(), m.now());
+                call("now");
                 break;
             case 1:
                 int number = number();
                 int of = from(-1, 7);
-                same("tried(" + number + ", " + of + ")", x.tried(number, of), m.tried(number, of));
+                call("tried", number, of);
                 break;
             case 2:
             case 3:
-                same("seen(" + climber + ", " + route + ")", x.seen(climber, route), m.seen(climber, route));
+                call("seen", climber, route);
                 break;
             case 4:
-                same("ready(" + climber + ")", x.ready(climber), m.ready(climber));
+                call("ready", climber);
                 break;
             case 5:
                 int what = from(-1, 7);
-                same("of(" + round + ", " + route + ", " + climber + ", " + day + ", " + what + ")",
-                    x.of(round, route, climber, day, what), m.of(round, route, climber, day, what));
+                call("of", round, route, climber, day, what);
                 break;
             case 6:
                 int k = from(-1, 2);
-                same("key(" + round + ", " + climber + ", " + day + ", " + k + ")",
-                    x.key(round, climber, day, k), m.key(round, climber, day, k));
+                call("key", round, climber, day, k);
                 break;
             case 7:
-                same("rank(" + round + ", " + climber + ", " + day + ")",
-                    x.rank(round, climber, day), m.rank(round, climber, day));
+                call("rank", round, climber, day);
                 break;
             case 8:
                 int place = from(-1, 5);
-                same("order(" + round + ", " + place + ")", x.order(round, place), m.order(round, place));
+                call("order", round, place);
                 break;
             case 9:
                 int set = from(-1, 33);
-                same("parts(" + round + ", " + set + ", " + day + ")",
-                    x.parts(round, set, day), m.parts(round, set, day));
+                call("parts", round, set, day);
                 break;
             case 10:
                 int many = from(0, 6);
-                same("choose(" + round + ", " + many + ", " + day + ")",
-                    x.choose(round, many, day), m.choose(round, many, day));
+                call("choose", round, many, day);
                 break;
             default:
                 int told = from(-1, 5);
-                same("told(" + round + ", " + route + ", " + told + ")",
-                    x.told(round, route, told), m.told(round, route, told));
+                call("told", round, route, told);
                 break;
         }
     }
@@ -412,21 +439,21 @@ public final class ModelTest {
     private void askAll() {
         for (int i = 0; i < m.tries.size(); i++) {
             for (int what = 0; what < 7; what++) {
-                same("tried(" + i + ", " + what + ")", x.tried(i, what), m.tried(i, what));
+                call("tried", i, what);
             }
         }
         for (int round = 0; round < m.rounds.size(); round++) {
             for (int day = 0; day < 6; day++) {
                 for (int climber = 0; climber < m.climbers; climber++) {
-                    same("rank", x.rank(round, climber, day), m.rank(round, climber, day));
-                    same("key", x.key(round, climber, day, 0), m.key(round, climber, day, 0));
+                    call("rank", round, climber, day);
+                    call("key", round, climber, day, 0);
                 }
                 for (int many = 1; many < 4; many++) {
-                    same("choose", x.choose(round, many, day), m.choose(round, many, day));
+                    call("choose", round, many, day);
                 }
             }
             for (int k = 0; k < 16; k++) {
-                same("order(" + round + ", " + k + ")", x.order(round, k), m.order(round, k));
+                call("order", round, k);
             }
         }
     }
