@@ -80,15 +80,22 @@ public final class LongRunTest {
         s.row("of 0 0 4 0 #", 0, 0, 0, 0, 0, 0, 0);
         s.row("key 0 # 0 0", 13, 13, 13, 2, 0);
         s.row("rank 0 # 0", 1, 1, 1, 4, 5);
-        s.row("parts 0 # 0", 0, 9, 7, 7);
+        parts(s, 0, 9, 7, 7);
         s.due("choose 0 1 0", 1);
         s.due("appeal 5 6 3", 1);
         s.row("rank 0 # 2", 1, 1, 1, 4, 5);
         s.row("rank 0 # 3", 1, 1, 1, 1, 5);
-        s.row("parts 0 # 3", 0, 7, 7, 4);
+        parts(s, 3, 7, 7, 4);
         s.due("choose 0 1 3", 1);
         s.due("appeal 0 3 5", 1);
         s.row("rank 0 # 5", 4, 1, 1, 1, 5);
+    }
+
+    /** Sets of two routes: the first, the second, both. */
+    private static void parts(Script s, int day, int first, int second, int both) {
+        s.due("parts 0 1 " + day, first);
+        s.due("parts 0 2 " + day, second);
+        s.due("parts 0 3 " + day, both);
     }
 
     private static void climbSecondRound(Script s) {
@@ -96,7 +103,7 @@ public final class LongRunTest {
         s.refused("begin 0 1 73", 1);
         s.row("rank 1 # 2", 1, 1, 1);
         s.row("rank 1 # 5", 3, 1, 1);
-        s.due("begin 2 0 74", 9);
+        s.due("begin 2 0 76", 9);
         s.due("reach 2 2 80", 0);
         s.due("fall 2 80 false", 1);
         s.due("begin 1 0 80", 10);
@@ -379,8 +386,8 @@ public final class LongRunTest {
         s.row("tried 0 #", 0, 0, 0, 0, 9, 5, 2);
         s.row("rank 0 # 2", 3, 1, 2);
         s.row("rank 0 # 3", 1, 2, 3);
-        s.row("parts 0 # 2", 0, 3, 2, 2);
-        s.row("parts 0 # 3", 0, 3, 2, 3);
+        parts(s, 2, 3, 2, 2);
+        parts(s, 3, 3, 2, 3);
         s.due("choose 0 1 3", 1);
         s.due("appeal 3 0 1", 1);
         s.due("appeal 4 7 1", 1);
@@ -571,10 +578,10 @@ public final class LongRunTest {
         s.refused("begin 0 0 1000000", 8);
         s.due("now", 1000000);
         s.due("advance 2 0", 2);
-        s.due("begin 0 0 1000000", 3);
-        s.due("reach 0 10 1000000", 1);
-        s.row("of 1 0 0 0 #", 1, 0, 10, 1, 0, 1, 100);
-        s.row("rank 1 # 0", 1, 2);
+        s.due("begin 1 0 1000000", 3);
+        s.due("reach 1 10 1000000", 1);
+        s.row("of 1 0 1 0 #", 1, 0, 10, 1, 0, 1, 100);
+        s.row("rank 1 # 0", 2, 1);
         s.load("", 0);
         s.due("now", 0);
         s.end();

@@ -598,7 +598,10 @@ public final class PromiseTest extends Calls {
         x.begin(1, 0, 50);
         x.reach(1, 10, 50);
         due("a top's", x, x.ready(1), 57, 0);
-        x.advance(1, 0);
+        x.begin(0, 0, 50);
+        x.fall(0, 50, false);
+        due("a fall's", x, x.ready(0), 57, 0);
+        due("only the one with the top comes", x, x.advance(1, 0), 1, 0);
         due("none from the round ahead", x, x.ready(1), 50, 0);
         due("nor for one that did not come", x, x.ready(0), 50, 0);
         x.begin(1, 0, 50);
