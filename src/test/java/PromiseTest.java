@@ -14,6 +14,7 @@ public final class PromiseTest extends Calls {
         promise8();
         promise9();
         promise9Order();
+        promise9Appealed();
         promise10();
         promise11();
         promise12();
@@ -337,6 +338,19 @@ public final class PromiseTest extends Calls {
         due("as the other one did", x, x.begin(0, 0, 80), 9, 0);
         refused("the last second", x, x.begin(1, 0, 1000000), 4);
         Check.due("is one", x.now(), 1000000);
+    }
+
+    /** begin() has no DAY, so TOPPED is what was told, whatever appeals say of any day. */
+    private static void promise9Appealed() {
+        RouteWall x = Texts.wall("round 2 2 10 0;", 1);
+        climb(x, 0, 0, 10, 1);
+        climb(x, 0, 1, 9, 1);
+        x.appeal(0, 3, 0);
+        x.appeal(1, 10, 0);
+        Check.due("no top as known on day 0", x.of(0, 0, 0, 0, 0), 0);
+        refused("but she has topped it", x, x.begin(0, 0, x.now()), 6);
+        Check.due("a top as known on day 0", x.of(0, 1, 0, 0, 0), 1);
+        due("but she has not topped it", x, x.begin(0, 1, x.now()), 2, 0);
     }
 
     /** 1, 2, 9, 4, 5, 6, 3, 7, 8: each is asked ahead of those behind it. */
